@@ -285,6 +285,8 @@ public final class PromisesTest {
         no(f, f.studies(-1), 1);
         is(f.studies(300), 0);
         is(f.status(), 0);
+        is(f.studies(0), 0);
+        is(f.status(), 0);
         no(f, f.studies(1), 1);
 
         promise = 12;
@@ -367,6 +369,13 @@ public final class PromisesTest {
         scaleFault("sounds 1;sounds 1;", 5, 16);
         scaleFault("odds 00001;", 1, 5);
         scaleFault("12345", 1, 0);
+        scaleFault("sounds 12345;", 1, 7);
+        scaleFault("z 1;", 2, 0);
+        scaleFault("a 1;", 2, 0);
+        scaleFault("`", 1, 0);
+        scaleFault("{", 1, 0);
+        scaleFault("odds /", 1, 5);
+        scaleFault("odds :", 1, 5);
         scaleFault("odds 1;A", 1, 7);
         scaleFault("odds\t1;", 1, 4);
         scaleFault("odds -1;", 1, 5);
@@ -425,6 +434,9 @@ public final class PromisesTest {
         studyFault("leave", 2, 5);
         studyFault("sounds 1;", 2, 0);
         studyFault("PRESS", 1, 0);
+        studyFault("when 12345;", 1, 5);
+        studyFault("when fit 12345 1;", 1, 9);
+        studyFault("hold 1;end 12345", 1, 11);
         studyFault("press 00001;", 1, 6);
         studyFault(times("any;", 30) + "any;", 6, 120);
         studyFault(times("any;", 30) + "end;", 2, 120);
@@ -779,6 +791,15 @@ public final class PromisesTest {
         no(f, f.keyOf(1, 2), 1);
         no(f, f.keyOf(1, -1), 1);
         no(f, f.keyOf(12, 0), 1);
+        // A 13th to the right, a 7th up: there are none.
+        f = of("period 60;right 4;up 0;");
+        is(f.keyOf(44, 0), 11);
+        no(f, f.keyOf(48, 0), 6);
+        f = of("period 60;right 0;up 7;");
+        is(f.keyOf(35, 1), 5);
+        no(f, f.keyOf(42, 0), 6);
+        is(f.keyOf(0, 0), 0);
+        is(f.keyOf(0, 1), 0);
         f = of("right 1;up 1;");
         is(f.keyOf(4, 0), 4);
         is(f.keyOf(4, 1), 0);
@@ -792,6 +813,8 @@ public final class PromisesTest {
         promise = 45;
         is(f.keyTones(), 60);
         is(of("right 6;up 0;").keyTones(), 2);
+        is(of("period 60;right 0;up 7;").keyTones(), 6);
+        is(of("period 60;right 4;up 0;").keyTones(), 12);
         is(of("right 0;up 0;").keyTones(), 1);
         is(of("period 60;right 1;up 1;").keyTones(), 17);
     }
@@ -805,6 +828,7 @@ public final class PromisesTest {
         is(f.nearest(2), 0);
         is(f.nearest(11), 1);
         is(f.nearest(12), 2);
+        is(of("").nearest(7), 4);
         is(of("length 2;generator 4;").nearest(2), 0);
         is(of("length 2;generator 4;").nearest(8), 1);
         no(f, f.nearest(20), 1);
@@ -835,6 +859,10 @@ public final class PromisesTest {
         no(f, f.ask(), 6);
         f = of("period 3;length 3;sounds 0 1 2;");
         is(f.guesses(), 2);
+        no(f, f.ask(), 6);
+        f = of("length 2;sounds 0 6;");
+        is(f.guesses(), 1);
+        is(f.guessAt(0), 6);
         no(f, f.ask(), 6);
         // Nothing sounds, two TONES: all but 0 reach all, 0 reaches all, too, by some ROOT.
         is(of("length 2;").ask(), 0);
@@ -979,6 +1007,7 @@ public final class PromisesTest {
         is(f.read(0, 0), 0);
         f.tray(0, 0, 25);
         f.write(0, 24, 99);
+        f.write(0, 0, 99);
         is(f.copyScale(0), 24);
         for (int d = 0; d < 24; d++) {
             is(f.read(0, d), f.tone(d));
@@ -999,7 +1028,12 @@ public final class PromisesTest {
         f.write(0, 3, -1);
         no(f, f.steps(0, 4), 5);
         is(f.steps(0, 3), 2);
+        f.tray(2, 2, 60);
+        is(f.steps(2, 60), 0);
         f.rule(1, 12);
+        f.write(2, 7, 12);
+        is(f.steps(2, 7), 0);
+        no(f, f.steps(2, 8), 5);
         f.tray(1, 3, 3);
         f.write(1, 0, 1L << 32);
         no(f, f.steps(1, 3), 5);
