@@ -115,6 +115,15 @@ public final class PromisesTest {
         is(f.told(1), 19);
     }
 
+    /** Of what is on the tape only the first bytes are the text. */
+    private static void cutFault(String tape, int length, int kind, int place) {
+        ScaleForge f = new ScaleForge();
+        feed(f, tape);
+        no(f, f.scale(length), 9);
+        is(f.fault(0), kind);
+        is(f.fault(1), place);
+    }
+
     private static void studyFault(String text, int kind, int place) {
         ScaleForge f = new ScaleForge();
         no(f, studies(f, text), 9);
@@ -185,8 +194,10 @@ public final class PromisesTest {
         is(f.status(), 0);
         is(f.read(0, 59), 0);
         is(f.write(0, 59, 9), true);
+        is(f.write(0, 0, 9), true);
         is(f.tray(0, 0, 60), true);
         is(f.read(0, 59), 0);
+        is(f.read(0, 0), 0);
         is(f.tray(3, 3, 0), true);
         no(f, f.read(3, 0), 3);
 
@@ -368,6 +379,13 @@ public final class PromisesTest {
         scaleFault("sounds 1 2 1;", 5, 11);
         scaleFault("sounds 1;sounds 1;", 5, 16);
         scaleFault("odds 00001;", 1, 5);
+        scaleFault("xdds 1;", 2, 0);
+        scaleFault("oddx 1;", 2, 0);
+        cutFault("odds 12;", 6, 2, 6);
+        cutFault("odds 5  ;", 6, 2, 6);
+        cutFault("odds 5  ;", 7, 2, 7);
+        cutFault("period 12;", 5, 2, 0);
+        cutFault("odds 1;sounds;", 12, 2, 7);
         scaleFault("12345", 1, 0);
         scaleFault("sounds 12345;", 1, 7);
         scaleFault("z 1;", 2, 0);
