@@ -1,11 +1,5 @@
-import java.nio.charset.StandardCharsets;
-
 /** For each promise of the document: ordinary inputs, the edges that it names, and wrong inputs. */
-public final class PromisesTest {
-    private static int checks = 0;
-    private static int wrong = 0;
-    private static int promise = 0;
-
+public final class PromisesTest extends Bench {
     public static void main(String[] args) {
         newObjects();
         trays();
@@ -27,119 +21,13 @@ public final class PromisesTest {
         lifeEnds();
         means();
         marks();
-        System.out.println(checks + " checks, " + wrong + " wrong");
-        if (wrong != 0) {
-            System.exit(1);
-        }
-    }
-
-    // ---- how it is asked
-
-    private static void is(long got, long due) {
-        checks++;
-        if (got != due) {
-            wrong++;
-            StackTraceElement line = new Throwable().getStackTrace()[1];
-            if (line.getMethodName().equals("no") || line.getMethodName().equals("fraction")) {
-                line = new Throwable().getStackTrace()[2];
-            }
-            System.out.println("promise " + promise + ", line " + line.getLineNumber() + ": " + got + ", due is " + due);
-        }
-    }
-
-    private static void is(boolean got, boolean due) {
-        is(got ? 1 : 0, due ? 1 : 0);
-    }
-
-    /** NONE with a STATUS. */
-    private static void no(ScaleForge f, long got, int status) {
-        is(got, -1);
-        is(f.status(), status);
-    }
-
-    private static void no(ScaleForge f, boolean got, int status) {
-        is(got, false);
-        is(f.status(), status);
-    }
-
-    private static void fraction(ScaleForge f, boolean got, long top, long bottom) {
-        is(got, true);
-        is(f.status(), 0);
-        is(f.top(), top);
-        is(f.bottom(), bottom);
-    }
-
-    private static int feed(ScaleForge f, String text) {
-        byte[] bytes = text.getBytes(StandardCharsets.ISO_8859_1);
-        for (int i = 0; i < bytes.length; i += 20) {
-            int[] five = new int[5];
-            for (int j = 0; j < 20; j++) {
-                int b = i + j < bytes.length ? bytes[i + j] & 255 : 'Z';
-                five[j / 4] = five[j / 4] << 8 | b;
-            }
-            f.feed(five[0], five[1], five[2], five[3], five[4]);
-        }
-        return bytes.length;
-    }
-
-    private static int scale(ScaleForge f, String text) {
-        return f.scale(feed(f, text));
-    }
-
-    private static int studies(ScaleForge f, String text) {
-        return f.studies(feed(f, text));
-    }
-
-    private static ScaleForge of(String text) {
-        ScaleForge f = new ScaleForge();
-        if (scale(f, text) == -1) {
-            throw new IllegalStateException("not taken: " + text + " " + f.fault(0) + " at " + f.fault(1));
-        }
-        return f;
-    }
-
-    private static ScaleForge of(String scale, String studies) {
-        ScaleForge f = of(scale);
-        if (studies(f, studies) == -1) {
-            throw new IllegalStateException("not taken: " + studies + " " + f.fault(0) + " at " + f.fault(1));
-        }
-        return f;
-    }
-
-    private static void scaleFault(String text, int kind, int place) {
-        ScaleForge f = new ScaleForge();
-        f.rule(1, 19);
-        no(f, scale(f, text), 9);
-        is(f.fault(0), kind);
-        is(f.fault(1), place);
-        is(f.told(1), 19);
-    }
-
-    /** Of what is on the tape only the first bytes are the text. */
-    private static void cutFault(String tape, int length, int kind, int place) {
-        ScaleForge f = new ScaleForge();
-        feed(f, tape);
-        no(f, f.scale(length), 9);
-        is(f.fault(0), kind);
-        is(f.fault(1), place);
-    }
-
-    private static void studyFault(String text, int kind, int place) {
-        ScaleForge f = new ScaleForge();
-        no(f, studies(f, text), 9);
-        is(f.fault(0), kind);
-        is(f.fault(1), place);
-        no(f, f.live(1), 6);
-    }
-
-    private static String times(String text, int often) {
-        return text.repeat(often);
+        finish();
     }
 
     // ---- promises
 
     private static void newObjects() {
-        promise = 1;
+        at(1);
         ScaleForge f = new ScaleForge();
         is(f.status(), 0);
         is(f.top(), 0);
@@ -160,7 +48,7 @@ public final class PromisesTest {
         no(f, f.scale(1), 1);
         is(f.feed(0, 0, 0, 0, 0), 20);
 
-        promise = 2;
+        at(2);
         ScaleForge g = new ScaleForge();
         no(g, g.told(12), 1);
         g.feed(1, 2, 3, 4, 5);
@@ -171,18 +59,18 @@ public final class PromisesTest {
         is(g.told(0), 4);
         is(g.status(), 0);
 
-        promise = 3;
+        at(3);
         fraction(g, g.convergent(3), 3, 5);
         no(g, g.convergent(9), 6);
         is(g.top(), 3);
-        promise = 4;
+        at(4);
         is(g.bottom(), 5);
         fraction(g, g.mistuned(0, 1), 0, 1);
     }
 
     private static void trays() {
         ScaleForge f = new ScaleForge();
-        promise = 5;
+        at(5);
         no(f, f.tray(-1, 0, 1), 1);
         no(f, f.tray(4, 0, 1), 1);
         no(f, f.tray(0, -1, 1), 1);
@@ -201,7 +89,7 @@ public final class PromisesTest {
         is(f.tray(3, 3, 0), true);
         no(f, f.read(3, 0), 3);
 
-        promise = 6;
+        at(6);
         long v = 0x1234567890ABCDEFL;
         for (int sort = 0; sort < 4; sort++) {
             is(f.tray(1, sort, 3), true);
@@ -216,7 +104,7 @@ public final class PromisesTest {
         no(f, f.write(1, 3, 1), 3);
         no(f, f.write(1, -1, 1), 3);
 
-        promise = 7;
+        at(7);
         no(f, f.read(4, 0), 1);
         no(f, f.read(-1, 0), 1);
         no(f, f.read(2, 0), 2);
@@ -226,7 +114,7 @@ public final class PromisesTest {
         is(f.read(1, 0), -1);
         is(f.status(), 0);
 
-        promise = 8;
+        at(8);
         pours();
     }
 
@@ -268,7 +156,7 @@ public final class PromisesTest {
     }
 
     private static void tape() {
-        promise = 9;
+        at(9);
         ScaleForge f = new ScaleForge();
         f.told(99);
         for (int i = 1; i <= 45; i++) {
@@ -277,7 +165,7 @@ public final class PromisesTest {
         is(f.feed(0, 0, 0, 0, 0), -1);
         is(f.status(), 1);
 
-        promise = 10;
+        at(10);
         no(f, f.scale(901), 1);
         no(f, f.scale(-1), 1);
         is(f.fault(0), -1);
@@ -288,7 +176,7 @@ public final class PromisesTest {
         is(f.scale(0), 7);
         no(f, f.scale(1), 1);
 
-        promise = 11;
+        at(11);
         for (int i = 1; i <= 16; i++) {
             f.feed(0x20202020, 0x20202020, 0x20202020, 0x20202020, 0x20202020);
         }
@@ -300,7 +188,7 @@ public final class PromisesTest {
         is(f.status(), 0);
         no(f, f.studies(1), 1);
 
-        promise = 12;
+        at(12);
         is(f.fault(-1), -1);
         is(f.fault(2), -1);
         is(f.fault(0), 0);
@@ -313,7 +201,7 @@ public final class PromisesTest {
     }
 
     private static void scaleTexts() {
-        promise = 10;
+        at(10);
         ScaleForge f = new ScaleForge();
         is(scale(f, "odds 16;period 31;generator 18;length 12;down 3;root 30;nominals 5;right 5;up 3;sounds 1 30 0;"), 12);
         int[] due = {16, 31, 18, 12, 3, 30, 5, 5, 3, 12};
@@ -351,7 +239,7 @@ public final class PromisesTest {
     }
 
     private static void scaleFaults() {
-        promise = 12;
+        at(12);
         scaleFault("odds 17;", 4, 5);
         scaleFault("period 1;", 4, 7);
         scaleFault("period 61;", 4, 7);
@@ -416,17 +304,17 @@ public final class PromisesTest {
     }
 
     private static void studyFaults() {
-        promise = 11;
+        at(11);
         ScaleForge f = new ScaleForge();
         is(studies(f, "press 0;lift 59;root 1;any;hold 2;leave;end;when sounds 0;stop;end;loop 99;end;"), 9);
         is(studies(f, "when fit<60;when fit > 0;when fit=60;end;end;end;when degree59;end;"), 4);
-        is(studies(f, times("any;", 30)), 30);
-        is(studies(f, times("hold 1;end;", 20)), 20);
-        is(studies(f, "when fit = 60;" + times("any;", 29) + "end;"), 30);
+        is(studies(f, "any;".repeat(30)), 30);
+        is(studies(f, "hold 1;end;".repeat(20)), 20);
+        is(studies(f, "when fit = 60;" + "any;".repeat(29) + "end;"), 30);
         is(f.fault(0), 0);
         is(f.fault(1), -1);
 
-        promise = 12;
+        at(12);
         studyFault("press 60;", 4, 6);
         studyFault("lift 60;", 4, 5);
         studyFault("root 60;", 4, 5);
@@ -456,22 +344,22 @@ public final class PromisesTest {
         studyFault("when fit 12345 1;", 1, 9);
         studyFault("hold 1;end 12345", 1, 11);
         studyFault("press 00001;", 1, 6);
-        studyFault(times("any;", 30) + "any;", 6, 120);
-        studyFault(times("any;", 30) + "end;", 2, 120);
-        studyFault(times("any;", 30) + "foo;", 2, 120);
+        studyFault("any;".repeat(30) + "any;", 6, 120);
+        studyFault("any;".repeat(30) + "end;", 2, 120);
+        studyFault("any;".repeat(30) + "foo;", 2, 120);
         studyFault("loop 1;loop 1;loop 1;loop 1;", 7, 21);
         studyFault("hold 1;when fit=0;loop 2;hold", 7, 25);
         studyFault("loop 1;loop 1;loop 1;end;loop 1;any;when fit=1;", 7, 36);
-        studyFault("loop 1;loop 1;loop 1;" + times("any;", 27) + "loop 1;", 6, 129);
+        studyFault("loop 1;loop 1;loop 1;" + "any;".repeat(27) + "loop 1;", 6, 129);
     }
 
     private static void degrees() {
-        promise = 13;
+        at(13);
         ScaleForge f = new ScaleForge();
         no(f, f.told(-1), 1);
         no(f, f.told(12), 1);
 
-        promise = 14;
+        at(14);
         is(f.chain(60), 0);
         is(f.chain(-60), 0);
         is(f.chain(-59), 7);
@@ -483,7 +371,7 @@ public final class PromisesTest {
         is(f.chain(0), 1);
 
         // 12 by 7 down 2 from 3: 1 8 3 10 5 0 7.
-        promise = 15;
+        at(15);
         int[] tones = {0, 1, 3, 5, 7, 8, 10};
         for (int d = 0; d < 7; d++) {
             is(f.tone(d), tones[d]);
@@ -491,7 +379,7 @@ public final class PromisesTest {
         no(f, f.tone(7), 1);
         no(f, f.tone(-1), 1);
 
-        promise = 16;
+        at(16);
         is(f.degree(10), 6);
         is(f.degree(0), 0);
         no(f, f.degree(2), 6);
@@ -499,7 +387,7 @@ public final class PromisesTest {
         no(f, f.degree(12), 1);
         no(f, f.degree(-1), 1);
 
-        promise = 17;
+        at(17);
         is(f.step(0), 1);
         is(f.step(6), 2);
         no(f, f.step(7), 1);
@@ -508,7 +396,7 @@ public final class PromisesTest {
         is(one.step(0), 60);
         no(one, one.step(1), 1);
 
-        promise = 18;
+        at(18);
         is(one.span(0, 24), 1440);
         is(one.span(0, 0), 0);
         is(f.span(5, 3), 5);
@@ -518,7 +406,7 @@ public final class PromisesTest {
         no(f, f.span(0, -1), 1);
         no(f, f.span(7, 1), 1);
 
-        promise = 19;
+        at(19);
         is(one.sizeAt(0), 60);
         no(one, one.sizeAt(1), 6);
         no(one, one.sizeAt(-1), 6);
@@ -529,7 +417,7 @@ public final class PromisesTest {
         is(f.sizeAt(2), 5);
         is(f.told(10), 3);
 
-        promise = 20;
+        at(20);
         is(f.sizeMany(0), 2);
         is(f.sizeMany(1), 1);
         is(f.sizeMany(2), 1);
@@ -539,7 +427,7 @@ public final class PromisesTest {
     }
 
     private static void rules() {
-        promise = 21;
+        at(21);
         ScaleForge f = new ScaleForge();
         int[][] bounds = {{0, 16}, {2, 60}, {0, 11}, {1, 24}, {0, 23}, {0, 11}, {1, 7}, {0, 11}, {0, 11}};
         for (int what = 0; what < 9; what++) {
@@ -580,7 +468,7 @@ public final class PromisesTest {
         no(f, f.rule(2, 60), 1);
         is(f.rule(2, 0), 1);
 
-        promise = 26;
+        at(26);
         f = new ScaleForge();
         is(f.rule(4, 2), 7);
         is(f.flip(), 7);
@@ -601,7 +489,7 @@ public final class PromisesTest {
     }
 
     private static void sounding() {
-        promise = 22;
+        at(22);
         ScaleForge f = new ScaleForge();
         is(f.press(11), 1);
         is(f.press(0), 2);
@@ -609,13 +497,13 @@ public final class PromisesTest {
         no(f, f.press(12), 1);
         no(f, f.press(-1), 1);
 
-        promise = 23;
+        at(23);
         is(f.lift(11), 1);
         no(f, f.lift(11), 7);
         no(f, f.lift(12), 1);
         no(f, f.lift(-1), 1);
 
-        promise = 28;
+        at(28);
         f.lift(0);
         is(f.recent(0), 0);
         is(f.recent(1), 11);
@@ -633,19 +521,19 @@ public final class PromisesTest {
         is(f.recent(7), 5);
         is(f.recent(11), 1);
 
-        promise = 24;
+        at(24);
         is(f.sift(), 5);
         is(f.sift(), 0);
         is(f.told(11), 7);
 
-        promise = 27;
+        at(27);
         is(f.soundAt(0), 0);
         is(f.soundAt(3), 6);
         is(f.soundAt(6), 11);
         no(f, f.soundAt(7), 6);
         no(f, f.soundAt(-1), 6);
 
-        promise = 25;
+        at(25);
         is(f.glide(7), 6);
         is(f.soundAt(0), 1);
         is(f.glide(0), 6);
@@ -657,13 +545,13 @@ public final class PromisesTest {
         no(f, f.glide(60), 1);
         no(f, f.glide(-1), 1);
 
-        promise = 47;
+        at(47);
         is(f.fit(), 2);
         is(new ScaleForge().fit(), 0);
     }
 
     private static void modes() {
-        promise = 29;
+        at(29);
         ScaleForge f = of("length 4;");
         is(f.variety(1), 3);
         is(f.variety(2), 2);
@@ -673,7 +561,7 @@ public final class PromisesTest {
         no(f, f.variety(0), 1);
         no(f, f.variety(25), 1);
 
-        promise = 30;
+        at(30);
         is(f.myhill(), 0);
         is(of("length 5;").myhill(), 1);
         is(of("length 12;").myhill(), 0);
@@ -681,12 +569,12 @@ public final class PromisesTest {
         is(of("length 2;").myhill(), 1);
         is(of("length 2;generator 6;").myhill(), 0);
 
-        promise = 31;
+        at(31);
         is(of("generator 0;").lengths(), 0);
         is(of("generator 6;").lengths(), 1);
         is(of("period 60;generator 1;length 3;").lengths(), 23);
 
-        promise = 32;
+        at(32);
         f = of("period 31;generator 18;");
         int[] due = {2, 3, 5, 7, 12, 19, 20, 21, 22, 23, 24};
         is(f.lengths(), 11);
@@ -698,7 +586,7 @@ public final class PromisesTest {
         f = of("generator 0;");
         no(f, f.lengthAt(0), 6);
 
-        promise = 33;
+        at(33);
         is(of("length 12;").modes(), 1);
         is(of("length 1;").modes(), 1);
         is(of("generator 6;length 2;").modes(), 1);
@@ -707,21 +595,21 @@ public final class PromisesTest {
         is(of("period 8;generator 3;length 4;").modes(), 4);
         is(of("generator 3;length 9;").modes(), 1);
 
-        promise = 34;
+        at(34);
         f = of("generator 3;length 9;");
         is(f.alike(0, 3), 1);
         no(f, f.alike(4, 0), 1);
         no(f, f.alike(0, -1), 1);
         is(of("").alike(0, 6), 0);
 
-        promise = 35;
+        at(35);
         is(f.brightness(2), 18);
         no(f, f.brightness(4), 1);
         no(f, f.brightness(-1), 1);
         is(of("length 1;").brightness(0), 0);
         is(of("length 4;").brightness(2), 2 + 5 + 7);
 
-        promise = 36;
+        at(36);
         // 0 2 7 9: 18, 5 + 7 + 10, 2 + 5 + 7, 3 + 5 + 10.
         f = of("length 4;");
         is(f.modeBy(0), 2);
@@ -734,7 +622,7 @@ public final class PromisesTest {
     }
 
     private static void names() {
-        promise = 37;
+        at(37);
         ScaleForge f = of("nominals 5;down 1;root 3;");
         is(f.nominal(-60), 0);
         is(f.nominal(-58), 2);
@@ -742,7 +630,7 @@ public final class PromisesTest {
         no(f, f.nominal(61), 1);
         no(f, f.nominal(-61), 1);
 
-        promise = 38;
+        at(38);
         is(f.sharps(-60), -12);
         is(f.sharps(-58), -12);
         is(f.sharps(59), 11);
@@ -751,7 +639,7 @@ public final class PromisesTest {
         no(f, f.sharps(61), 1);
         no(f, f.sharps(-61), 1);
 
-        promise = 39;
+        at(39);
         is(f.named(1, 0), 3);
         is(f.named(4, 9), (3 + 48 * 7) % 12);
         is(f.named(0, -9), Math.floorMod(3 - 46 * 7, 12));
@@ -760,7 +648,7 @@ public final class PromisesTest {
         no(f, f.named(0, 10), 1);
         no(f, f.named(0, -10), 1);
 
-        promise = 40;
+        at(40);
         is(f.simplest(3, 2), 1);
         is(f.simplest(3, 1), 0);
         is(f.simplest(3, 0), 1);
@@ -776,7 +664,7 @@ public final class PromisesTest {
         no(f, f.simplest(1, 3), 1);
         no(f, f.simplest(1, -1), 1);
 
-        promise = 41;
+        at(41);
         is(f.names(0), 61);
         is(f.names(6), 60);
         is(f.names(1), 0);
@@ -786,7 +674,7 @@ public final class PromisesTest {
     }
 
     private static void keys() {
-        promise = 42;
+        at(42);
         ScaleForge f = of("period 31;right 5;up 3;root 9;");
         is(f.keyTone(0, 0), 0);
         is(f.keyTone(11, 5), (55 + 15) % 31);
@@ -795,14 +683,14 @@ public final class PromisesTest {
         no(f, f.keyTone(-1, 0), 1);
         no(f, f.keyTone(0, -1), 1);
 
-        promise = 43;
+        at(43);
         f = of("right 6;up 0;");
         is(f.keys(0), 36);
         is(f.keys(1), 0);
         no(f, f.keys(12), 1);
         no(f, f.keys(-1), 1);
 
-        promise = 44;
+        at(44);
         no(f, f.keyOf(1, 0), 6);
         is(f.keyOf(6, 0), 1);
         is(f.keyOf(6, 1), 0);
@@ -828,7 +716,7 @@ public final class PromisesTest {
         is(f.keyOf(5, 0), 0);
         is(f.keyOf(5, 1), 5);
 
-        promise = 45;
+        at(45);
         is(f.keyTones(), 60);
         is(of("right 6;up 0;").keyTones(), 2);
         is(of("period 60;right 0;up 7;").keyTones(), 6);
@@ -838,7 +726,7 @@ public final class PromisesTest {
     }
 
     private static void guesses() {
-        promise = 46;
+        at(46);
         ScaleForge f = of("period 20;generator 3;length 3;root 18;");
         // 18 1 4: DEGREES 1 4 18.
         is(f.nearest(0), 0);
@@ -852,25 +740,25 @@ public final class PromisesTest {
         no(f, f.nearest(20), 1);
         no(f, f.nearest(-1), 1);
 
-        promise = 48;
+        at(48);
         f = of("down 1;sounds 1 3 5 6 8 10 11;");
         is(f.fit(), 2);
         is(f.bestRoot(), 6);
         is(of("sounds 6;").bestRoot(), 0);
         is(of("length 1;sounds 6;").bestRoot(), 6);
 
-        promise = 49;
+        at(49);
         f = of("length 2;sounds 3 7;");
         is(f.guesses(), 2);
         is(of("length 1;sounds 3 7;").guesses(), 0);
 
-        promise = 50;
+        at(50);
         is(f.guessAt(0), 4);
         is(f.guessAt(1), 8);
         no(f, f.guessAt(2), 6);
         no(f, f.guessAt(-1), 6);
 
-        promise = 51;
+        at(51);
         // By 4 and 8 nothing more stays; all are alike, the least does not sound.
         is(f.ask(), 0);
         f = of("length 1;sounds 3 7;");
@@ -889,7 +777,7 @@ public final class PromisesTest {
         is(f.guesses(), 5);
         is(f.ask(), 1);
 
-        promise = 52;
+        at(52);
         f = of("root 3;");
         is(f.common(3), 7);
         is(f.common(10), 6);
@@ -900,14 +788,14 @@ public final class PromisesTest {
     }
 
     private static void ways() {
-        promise = 53;
+        at(53);
         is(of("").way(), 0);
         is(of("sounds 5;").way(), 0);
         is(of("sounds 1 11;").way(), 2);
         // From 0: 11 first and back over 0 to 3, 4 is 1 and 4 and 1; 3 4 11 is 3 and 1 and 5.
         ScaleForge f = of("sounds 0 3 4 11;");
         is(f.way(), 6);
-        promise = 54;
+        at(54);
         is(f.wayAt(0), 0);
         is(f.wayAt(1), 11);
         is(f.wayAt(2), 3);
@@ -932,7 +820,7 @@ public final class PromisesTest {
         no(f, f.wayAt(0), 7);
         no(f, f.wayAt(-1), 7);
 
-        promise = 55;
+        at(55);
         f = of("length 3;");
         // 0 2 7.
         is(f.shapes(1), 1);
@@ -953,14 +841,14 @@ public final class PromisesTest {
     }
 
     private static void fractions() {
-        promise = 56;
+        at(56);
         is(of("generator 0;").convergents(), 1);
         is(of("generator 1;").convergents(), 2);
         is(of("generator 6;").convergents(), 2);
         is(of("generator 11;").convergents(), 3);
         is(of("period 55;generator 34;").convergents(), 9);
 
-        promise = 57;
+        at(57);
         ScaleForge f = of("period 31;generator 18;");
         // 31 by 18: 1, 18 by 13: 1, 13 by 5: 2, 5 by 3: 1, 3 by 2: 1, 2.
         int[][] due = {{0, 1}, {1, 1}, {1, 2}, {3, 5}, {4, 7}, {7, 12}, {18, 31}};
@@ -976,7 +864,7 @@ public final class PromisesTest {
         f = of("generator 0;");
         fraction(f, f.convergent(0), 0, 1);
 
-        promise = 58;
+        at(58);
         f = of("length 4;");
         fraction(f, f.ratio(), 5, 2);
         f = of("length 12;");
@@ -986,7 +874,7 @@ public final class PromisesTest {
         f = of("generator 4;length 2;");
         fraction(f, f.ratio(), 2, 1);
 
-        promise = 59;
+        at(59);
         f = of("length 4;");
         fraction(f, f.share(0), 1, 2);
         fraction(f, f.share(1), 1, 4);
@@ -996,7 +884,7 @@ public final class PromisesTest {
         f = of("length 1;");
         fraction(f, f.share(0), 1, 1);
 
-        promise = 60;
+        at(60);
         f = of("odds 3;");
         fraction(f, f.mistuned(12, 12), 531441, 1L << 48);
         fraction(f, f.mistuned(12, 0), 1, 1);
@@ -1015,7 +903,7 @@ public final class PromisesTest {
     }
 
     private static void trayScales() {
-        promise = 61;
+        at(61);
         ScaleForge f = of("period 60;generator 7;length 24;root 50;");
         no(f, f.copyScale(-1), 1);
         no(f, f.copyScale(4), 1);
@@ -1032,7 +920,7 @@ public final class PromisesTest {
         }
         is(f.read(0, 24), 99);
 
-        promise = 62;
+        at(62);
         is(f.steps(0, 24), 23);
         is(f.steps(0, 0), 0);
         is(f.steps(0, 1), 0);
@@ -1074,7 +962,7 @@ public final class PromisesTest {
     }
 
     private static void lives() {
-        promise = 63;
+        at(63);
         ScaleForge f = of("sounds 4;", "press 1;press 1;lift 4;lift 4;root 5;root 5;press 12;lift 12;root 12;hold 12;any;end;");
         no(f, f.live(-1), 1);
         no(f, f.live(10000), 1);
@@ -1085,7 +973,7 @@ public final class PromisesTest {
         is(f.recent(0), 1);
         no(f, f.recent(1), 6);
 
-        promise = 64;
+        at(64);
         is(f.lived(0), 7);
         is(f.lived(1), 1);
         is(f.lived(2), 1);
@@ -1097,7 +985,7 @@ public final class PromisesTest {
         is(f.lived(0), 7);
         no(f, f.logAt(0), 6);
 
-        promise = 63;
+        at(63);
         anys();
         tests();
         // STUDIES without a STEP are there.
@@ -1162,7 +1050,7 @@ public final class PromisesTest {
     }
 
     private static void lifeEnds() {
-        promise = 65;
+        at(65);
         ScaleForge f = of("", "hold 1;hold 2;press 3;end;lift 1;end;press 1;");
         is(f.live(0), 5);
         is(f.logAt(0), 2);
@@ -1210,7 +1098,7 @@ public final class PromisesTest {
         is(f.lived(3), 0);
         is(f.told(11), 2);
 
-        promise = 64;
+        at(64);
         // 1 and 99 each, three times: 300 and no more.
         f = of("", "loop 99;any;end;loop 99;any;end;loop 98;any;end;any;");
         is(f.live(7), 300);
@@ -1233,7 +1121,7 @@ public final class PromisesTest {
         is(f.lived(0), 297);
         is(f.told(11), 0);
 
-        promise = 65;
+        at(65);
         f = of("", "loop 61;hold 5;end;end;loop 9;hold 6;end;end;");
         is(f.live(0), 72);
         is(f.lived(3), 70);
@@ -1244,7 +1132,7 @@ public final class PromisesTest {
     }
 
     private static void means() {
-        promise = 66;
+        at(66);
         ScaleForge f = new ScaleForge();
         no(f, f.mean(0, 1), 6);
         no(f, f.mean(-1, 1), 1);
@@ -1274,7 +1162,7 @@ public final class PromisesTest {
     }
 
     private static void marks() {
-        promise = 67;
+        at(67);
         ScaleForge f = of("period 20;sounds 3;", "press 4;");
         f.press(9);
         is(f.mark(), 1);
@@ -1285,7 +1173,7 @@ public final class PromisesTest {
         is(f.mark(), 3);
         no(f, f.mark(), 4);
 
-        promise = 68;
+        at(68);
         f.press(1);
         f.tray(0, 0, 1);
         is(f.undo(), 2);
