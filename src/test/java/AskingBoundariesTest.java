@@ -1,3 +1,6 @@
+import java.util.HashSet;
+import java.util.Set;
+
 /** Each sentence of promises 29 to 68 (what is asked, STUDIES, MARKS) with its boundary cases. */
 public final class AskingBoundariesTest extends Bench {
     public static void main(String[] args) {
@@ -106,6 +109,8 @@ public final class AskingBoundariesTest extends Bench {
             is(of("period 60;length 24;").modes(), 24);
             is(of("generator 6;length 2;").modes(), 1);
             is(of("length 2;").modes(), 2);
+            is(of("length 2;root 1;").modes(), 2);
+            is(of("length 12;root 1;").modes(), 1);
         });
         promise(34, "1 if the MODES of two DEGREES are alike, else 0", () -> {
             ScaleForge f = new ScaleForge();
@@ -359,6 +364,14 @@ public final class AskingBoundariesTest extends Bench {
             is(of("length 2;sounds 0 6;").guesses(), 1);
             is(of("length 24;sounds 0 1 2 3 4 5 6 7 8 9 10 11;").guesses(), 4);
             is(of("period 60;").guesses(), 60);
+            // As it is now: those of an earlier call are gone.
+            ScaleForge f = of("length 2;");
+            yes(f, f.guesses(), 12);
+            f.press(0);
+            f.press(6);
+            yes(f, f.guesses(), 1);
+            f.press(7);
+            yes(f, f.guesses(), 0);
         });
         promise(50, "The k-th of these, from 0 on, rising", () -> {
             // All 12 by 1 5 7 11 alone.
@@ -386,6 +399,15 @@ public final class AskingBoundariesTest extends Bench {
             yes(f, f.guesses(), 2);
             yes(f, f.ask(), 1);
             f = of("period 5;length 2;sounds 0;");
+            yes(f, f.ask(), 1);
+            // Two of 4, 2 sounds: by 0 one of four stays, by 1 two of four do, which parts them better.
+            f = of("period 4;length 2;sounds 2;");
+            yes(f, f.ask(), 1);
+            // Likewise when an earlier call asked by a greater PERIOD.
+            f = of("period 60;length 2;");
+            yes(f, f.ask(), 0);
+            f.rule(1, 4);
+            f.press(2);
             yes(f, f.ask(), 1);
             // The last TONE alone does not sound.
             f = of("period 3;length 3;sounds 0 1;");
@@ -434,6 +456,12 @@ public final class AskingBoundariesTest extends Bench {
             is(of("sounds 0 11;").way(), 1);
             is(of("period 60;sounds 0 30;").way(), 30);
             is(of("sounds 0 1 2 3 4 5 6;").way(), 6);
+            ScaleForge f = of("sounds 0 3 6;");
+            yes(f, f.way(), 6);
+            f.lift(6);
+            yes(f, f.way(), 3);
+            f.lift(3);
+            yes(f, f.way(), 0);
             // Down from 0: 11 10 8 6 4 2.
             is(of("sounds 0 2 4 6 8 10 11;").way(), 10);
         });
@@ -492,8 +520,30 @@ public final class AskingBoundariesTest extends Bench {
             f = one();
             yes(f, f.shapes(2), 0);
             yes(f, f.shapes(1), 1);
+            // Those of one call are not told by the next one.
+            f = new ScaleForge();
+            f.modeBy(0);
+            f.mistuned(12, 6);
+            yes(f, f.shapes(3), unlikeThrees(0, 2, 4, 6, 7, 9, 11));
+            yes(f, f.shapes(3), unlikeThrees(0, 2, 4, 6, 7, 9, 11));
+            f.rule(3, 4);
+            yes(f, f.shapes(3), unlikeThrees(0, 2, 7, 9));
+            f.rule(3, 2);
+            yes(f, f.shapes(3), 0);
         });
         promise(55, "(1).", () -> bounds(AskingBoundariesTest::plain, 1, 3, 1, (f, n) -> f.shapes(n)));
+    }
+
+    private static int unlikeThrees(int... tones) {
+        Set<String> found = new HashSet<>();
+        for (int a = 0; a < tones.length; a++) {
+            for (int b = a + 1; b < tones.length; b++) {
+                for (int c = b + 1; c < tones.length; c++) {
+                    found.add((tones[b] - tones[a]) + " " + (tones[c] - tones[a]));
+                }
+            }
+        }
+        return found.size();
     }
 
     // ---- 56 to 60
@@ -765,6 +815,9 @@ public final class AskingBoundariesTest extends Bench {
             ScaleForge f = of("sounds 0 1;", "any;lift 1;lift 1;hold 2;end;");
             f.live(0);
             yes(f, f.lived(2), 2);
+            yes(f, f.lived(3), 1);
+            f.live(0);
+            yes(f, f.lived(2), 0);
             yes(f, f.lived(3), 1);
         });
         promise(64, "3: how many were let go,", () -> {

@@ -435,6 +435,12 @@ public final class DoingBoundariesTest extends Bench {
             yes(f, studies(f, "any;"), 1);
             yes(f, studies(f, "loop 9;any;end;"), 2);
             yes(f, studies(f, "any;".repeat(30)), 30);
+            // A text with a FAULT leaves nothing for the next one: neither what is open, nor a TEST's bounds.
+            no(f, studies(f, "loop 1;loop 1;loop 1;any"), 9);
+            yes(f, studies(f, "loop 1;end;any;"), 2);
+            yes(f, studies(f, "when fit=60;end;"), 1);
+            no(f, studies(f, "press 60;"), 9);
+            is(f.fault(0), 4);
         });
         promise(11, "(1: above 300, too;", () -> {
             bounds(() -> {
@@ -679,6 +685,10 @@ public final class DoingBoundariesTest extends Bench {
                 bounds(() -> of("period 60;root 3;"), 0, 59, 1, (f, n) -> f.rule(part, n));
             }
             bounds(() -> of("length 3;nominals 3;"), 0, 8, 1, (f, n) -> f.rule(n, 6));
+            ScaleForge g = new ScaleForge();
+            no(g, g.rule(9, 0), 1);
+            no(g, g.rule(-1, 0), 1);
+            no(g, g.rule(9, 7), 1);
         });
         promise(21, "7: it is so).", () -> {
             ScaleForge f = of("odds 3;generator 4;length 5;down 6;root 7;nominals 6;right 9;up 10;");
