@@ -40,6 +40,7 @@ class Bench {
         long of(ScaleForge f, int number);
     }
 
+    private static final int MOST_TOLD = 300;
     private static final Map<String, String> SECTIONS = new TreeMap<>();
     private static final Map<String, BitSet> QUOTED = new TreeMap<>();
     private static String now = "";
@@ -151,7 +152,10 @@ class Bench {
 
     private static void fail(String why) {
         wrong++;
-        System.out.println(now + "\n    " + why);
+        // One fault may show in a million checks: the first of them say enough.
+        if (wrong <= MOST_TOLD) {
+            System.out.println(now + "\n    " + why);
+        }
     }
 
     static void is(long got, long due) {

@@ -185,6 +185,10 @@ public final class PlainModelTest {
                 for (int what = 0; what < 5; what++) {
                     ask("lived", of(what));
                 }
+                for (int k = 0; k < 3; k++) {
+                    ask("logAt", of(k));
+                    ask("recent", of(k));
+                }
             }
         }
 
